@@ -310,6 +310,7 @@ public final class SmallComputer {
     }
 
     private static final class Controller {
+        private static final int LINES = 8;
         private static final int END_OF_SERVICE = 32;
         private static final int SHOW_REQUESTED = 10;
         private static final int SHOW_IN_SERVICE = 11;
@@ -325,12 +326,16 @@ public final class SmallComputer {
 
         /** The line whose request is to be given, or -1. */
         int lineToGive() {
-            int waiting = lowestBit(requested & ~masked);
-            int served = lowestBit(inService);
-            if (waiting == 0 || (served != 0 && waiting >= served)) {
-                return -1;
+            for (int line = 0; line < LINES; line++) {
+                int bit = 1 << line;
+                if ((inService & bit) != 0) {
+                    return -1;
+                }
+                if ((requested & ~masked & bit) != 0) {
+                    return line;
+                }
             }
-            return Integer.numberOfTrailingZeros(waiting);
+            return -1;
         }
 
         void give(int line) {
@@ -340,7 +345,8 @@ public final class SmallComputer {
 
         void command(int b) {
             if (b == END_OF_SERVICE) {
-                inService &= ~lowestBit(inService);
+                // Of a number and the number less 1, the lowest bit that is on differs, and all below it.
+                inService &= inService - 1;
             } else if (b == SHOW_REQUESTED) {
                 showsInService = false;
             } else if (b == SHOW_IN_SERVICE) {
@@ -350,10 +356,6 @@ public final class SmallComputer {
 
         int shown() {
             return showsInService ? inService : requested;
-        }
-
-        private static int lowestBit(int bits) {
-            return bits & -bits;
         }
     }
 

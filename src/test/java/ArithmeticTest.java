@@ -122,6 +122,11 @@ public final class ArithmeticTest {
             Check.registerDue("131 with " + k, x, Check.SI, k == 7 ? 0xF1 : result(k, 0xF1, 0xFFF0, 1, true));
             Check.registerDue("131 with " + k, x, Check.FLAGS, flags(k, 0xF1, 0xFFF0, 1, true));
             Check.registerDue("given operands with " + k, x, Check.IP, 524);
+            x = Check.with(131, 0xC6 + 8 * k, 0x7F);
+            x.put(Check.SI, 0x8000);
+            x.step(1);
+            Check.registerDue("131 up with " + k, x, Check.SI, k == 7 ? 0x8000 : result(k, 0x8000, 0x7F, 0, true));
+            Check.registerDue("131 up with " + k, x, Check.FLAGS, flags(k, 0x8000, 0x7F, 0, true));
             Check.due("interrupts", x.interrupts(), 0);
         }
     }
@@ -215,6 +220,35 @@ public final class ArithmeticTest {
     }
 
     private static void dividing() {
+        for (int i = 1; i < 11; i++) {
+            for (int j = 0; j < 11; j++) {
+                for (int k = 0; k < 11; k++) {
+                    divided(BYTES[i], BYTES[j], BYTES[k], false);
+                    divided(WORDS[i], WORDS[j], WORDS[k], true);
+                }
+            }
+        }
+        divisionEdges();
+    }
+
+    /** A whole made of its divisor, quotient and rest, where the rest is less than the divisor. */
+    private static void divided(int divisor, int quotient, int rest, boolean wide) {
+        if (rest >= divisor) {
+            return;
+        }
+        SmallComputer x = Check.with(wide ? 247 : 246, 0xF1);
+        long whole = (long) divisor * quotient + rest;
+        x.put(Check.AX, (int) (whole & 65535));
+        x.put(Check.DX, wide ? (int) (whole >> 16) : 4321);
+        x.put(Check.CX, divisor);
+        x.step(1);
+        String what = "DIV of " + whole + " by " + divisor;
+        Check.registerDue(what, x, Check.AX, wide ? quotient : 256 * rest + quotient);
+        Check.registerDue(what, x, Check.DX, wide ? rest : 4321);
+        Check.due(what + ": interrupts()", x.interrupts(), 0);
+    }
+
+    private static void divisionEdges() {
         SmallComputer x = Check.with(246, 0xF1, 247, 0xF3, 246, 0xF4);
         x.put(Check.AX, 255 * 200 + 199);
         x.put(Check.CX, 200);

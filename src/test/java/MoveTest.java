@@ -19,12 +19,12 @@ public final class MoveTest {
             Check.registerDue("184 + " + k, x, k, 0x9234);
             x = Check.with(176 + k, 0x9A, 136, 0xC0 + 8 * k + (k ^ 1), 138, 0xC0 + 8 * (k ^ 5) + k);
             for (int i = 0; i < 4; i++) {
-                x.put(i, 0x1122);
+                x.put(i, 0x1133);
             }
             x.step(1);
-            Check.registerDue("176 + " + k, x, k & 3, k < 4 ? 0x119A : 0x9A22);
+            Check.registerDue("176 + " + k, x, k & 3, k < 4 ? 0x119A : 0x9A33);
             x.step(1);
-            Check.registerDue("136 from " + k, x, (k & 3) ^ 1, k < 4 ? 0x119A : 0x9A22);
+            Check.registerDue("136 from " + k, x, (k & 3) ^ 1, k < 4 ? 0x119A : 0x9A33);
             x.step(1);
             // The other half of the neighbour's register is written too.
             Check.registerDue("138 from " + k, x, (k & 3) ^ 1, 0x9A9A);
@@ -227,6 +227,16 @@ public final class MoveTest {
         Check.wordDue("SP wraps", c, 1022, 0x1122);
         c.step(1);
         Check.registerDue("SP wraps back", c, Check.SP, 0);
+        c = Check.with(80, 89);
+        c.put(Check.SP, 1);
+        c.put(Check.AX, 0x3344);
+        c.step(1);
+        Check.registerDue("an odd SP", c, Check.SP, 65535);
+        Check.due("a word over the end", c.peek(1023), 0x44);
+        Check.due("a word over the end", c.peek(0), 0x33);
+        c.step(1);
+        Check.registerDue("an odd SP", c, Check.SP, 1);
+        Check.registerDue("a word over the end", c, Check.CX, 0x3344);
     }
 
     private static void flagInstructions() {

@@ -367,7 +367,7 @@ public final class PortTest {
         Check.due("LEFT 0x103", room(x, 400), 0x104);
         // Each byte counts at once: the higher one of LEFT stays when the lower one comes.
         x = new SmallComputer();
-        out(x, 3, 200);
+        out(x, 3, 201);
         out(x, 3, 1);
         out(x, 3, 2);
         out(x, 10, 0);

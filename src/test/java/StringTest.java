@@ -165,6 +165,11 @@ public final class StringTest {
         x.put(Check.CX, 2);
         x.step(1);
         Check.registerDue("the last prefix counts", x, Check.IP, 515);
+        x = with(243, 144, 170);
+        x.put(Check.CX, 2);
+        x.step(2);
+        Check.registerDue("a prefix of the instruction before", x, Check.CX, 2);
+        Check.registerDue("a prefix of the instruction before", x, Check.IP, 515);
         x = with(243, 174);
         x.put(Check.AX, 0xA3);
         x.put(Check.CX, 1);
