@@ -5,14 +5,14 @@ public final class ArithmeticTest {
 
     public static void main(String[] args) {
         everyOperation();
+        edgesOfBytes();
+        edgesOfWords();
         formsAndOperands();
         givenOperands();
         countingRegisters();
         countingOperands();
         notAndNegate();
         multiplying();
-        dividing();
-        divisionFaults();
         Check.end();
     }
 
@@ -52,6 +52,7 @@ public final class ArithmeticTest {
     }
 
     private static void everyOperation() {
+        Check.sentence("C: a carry or borrow; O: the signed result has no room; Z: it is 0; S: its highest bit");
         for (int k = 0; k < 8; k++) {
             for (int i = 0; i < 11; i++) {
                 for (int j = 0; j < 11; j++) {
@@ -65,7 +66,7 @@ public final class ArithmeticTest {
     }
 
     private static void accumulator(int k, int a, int b, int carry, boolean wide) {
-        SmallComputer x = Check.with(8 * k + (wide ? 5 : 4), b & 255, b >> 8);
+        Computer x = Check.with(8 * k + (wide ? 5 : 4), b & 255, b >> 8);
         x.put(Check.AX, wide ? a : 0xAB00 | a);
         // Flags that the operation sets stand the other way before it.
         int kept = Check.I | Check.D;
@@ -79,63 +80,144 @@ public final class ArithmeticTest {
         Check.registerDue(what, x, Check.IP, wide ? 515 : 514);
     }
 
-    private static void formsAndOperands() {
-        // SUB in its four forms with a modrm; BX is 300, so that the operand is at 300.
-        SmallComputer x = Check.with(40, 15, 41, 15, 42, 15, 43, 15);
-        x.put(Check.BX, 300);
-        Check.write(x, 300, 0x30, 0x40);
-        x.put(Check.CX, 0x1210);
-        x.step(1);
-        Check.wordDue("E b less R b", x, 300, 0x4020);
-        x.step(1);
-        Check.wordDue("E w less R w", x, 300, 0x2E10);
-        x.step(1);
-        Check.registerDue("R b less E b", x, Check.CX, 0x1200);
-        Check.registerDue("R b less E b", x, Check.FLAGS, Check.Z);
-        x.step(1);
-        Check.registerDue("R w less E w", x, Check.CX, (0x1200 - 0x2E10) & 65535);
-        Check.wordDue("E stays", x, 300, 0x2E10);
-        // CMP changes neither.
-        x = Check.ran(2, 57, 216, 56, 251);
-        Check.registerDue("CMP", x, Check.AX, 0);
-        Check.registerDue("CMP", x, Check.BX, 0);
-        Check.registerDue("CMP", x, Check.FLAGS, Check.Z);
-    }
-
-    private static void givenOperands() {
-        int[] memoryByR = new int[8];
-        for (int k = 0; k < 8; k++) {
-            SmallComputer x = Check.with(128, 8 * k + 6, 44, 1, 0x81, 129, 0xC3 + 8 * k, 0x34, 0x92, 131, 0xC6 + 8 * k, 0xF0);
-            x.poke(300, 0x7F);
-            x.put(Check.BX, 0x8234);
-            x.put(Check.SI, 0x00F1);
+    /** Operation, operands, carry before, result and flags, written out. */
+    private static void edgesOfBytes() {
+        Check.sentence("C: a carry or borrow; O: the signed result has no room; Z: it is 0; S: its highest bit");
+        int c = Check.C, z = Check.Z, s = Check.S, o = Check.O;
+        int[][] rows = {
+            {0, 254, 1, 1, 255, s}, {0, 255, 1, 0, 0, c | z}, {0, 127, 1, 0, 128, s | o}, {0, 126, 1, 0, 127, 0},
+            {0, 128, 128, 0, 0, c | z | o}, {0, 128, 127, 0, 255, s}, {0, 255, 255, 0, 254, c | s}, {0, 0, 0, 1, 0, z},
+            {0, 128, 255, 0, 127, c | o}, {2, 254, 0, 1, 255, s}, {2, 255, 0, 1, 0, c | z}, {2, 127, 0, 1, 128, s | o},
+            {2, 255, 255, 1, 255, c | s}, {2, 127, 128, 1, 0, c | z}, {2, 128, 255, 1, 128, c | s},
+            {2, 255, 0, 0, 255, s}, {3, 0, 0, 1, 255, c | s}, {3, 1, 0, 1, 0, z}, {3, 0, 255, 1, 0, c | z},
+            {3, 128, 0, 1, 127, o}, {3, 127, 255, 1, 127, c}, {3, 127, 255, 0, 128, c | s | o}, {3, 128, 127, 1, 0, z | o},
+            {3, 5, 5, 0, 0, z}, {3, 255, 255, 1, 255, c | s}, {5, 0, 1, 0, 255, c | s}, {5, 0, 0, 1, 0, z},
+            {5, 128, 1, 0, 127, o}, {5, 127, 255, 0, 128, c | s | o}, {5, 255, 255, 0, 0, z}, {5, 0, 128, 0, 128, c | s | o},
+            {5, 1, 128, 0, 129, c | s | o}, {5, 255, 127, 0, 128, s}, {7, 0, 1, 0, 0, c | s}, {7, 9, 9, 1, 9, z},
+            {7, 128, 1, 0, 128, o}, {4, 255, 0, 1, 0, z}, {4, 255, 128, 1, 128, s}, {1, 0, 0, 1, 0, z},
+            {1, 127, 128, 1, 255, s}, {6, 255, 255, 1, 0, z}, {6, 127, 255, 1, 128, s}};
+        for (int[] row : rows) {
+            Computer x = Check.with(8 * row[0] + 4, row[2]);
+            x.put(Check.AX, 0x5500 | row[1]);
+            x.put(Check.FLAGS, row[3]);
             x.step(1);
-            memoryByR[k] = k == 7 ? 0x7F : result(k, 0x7F, 0x81, 0, false);
-            Check.due("128 with " + k, x.peek(300), memoryByR[k]);
-            Check.registerDue("128 with " + k, x, Check.FLAGS, flags(k, 0x7F, 0x81, 0, false));
-            x.put(Check.FLAGS, Check.C);
-            x.step(1);
-            Check.registerDue("129 with " + k, x, Check.BX, k == 7 ? 0x8234 : result(k, 0x8234, 0x9234, 1, true));
-            Check.registerDue("129 with " + k, x, Check.FLAGS, flags(k, 0x8234, 0x9234, 1, true));
-            x.put(Check.FLAGS, Check.C);
-            x.step(1);
-            Check.registerDue("131 with " + k, x, Check.SI, k == 7 ? 0xF1 : result(k, 0xF1, 0xFFF0, 1, true));
-            Check.registerDue("131 with " + k, x, Check.FLAGS, flags(k, 0xF1, 0xFFF0, 1, true));
-            Check.registerDue("given operands with " + k, x, Check.IP, 524);
-            x = Check.with(131, 0xC6 + 8 * k, 0x7F);
-            x.put(Check.SI, 0x8000);
-            x.step(1);
-            Check.registerDue("131 up with " + k, x, Check.SI, k == 7 ? 0x8000 : result(k, 0x8000, 0x7F, 0, true));
-            Check.registerDue("131 up with " + k, x, Check.FLAGS, flags(k, 0x8000, 0x7F, 0, true));
-            Check.due("interrupts", x.interrupts(), 0);
+            String what = "operation " + row[0] + " of bytes " + row[1] + ", " + row[2] + " with C " + row[3];
+            Check.registerDue(what, x, Check.AX, 0x5500 | row[4]);
+            Check.registerDue(what, x, Check.FLAGS, row[5]);
         }
     }
 
+    private static void edgesOfWords() {
+        Check.sentence("C: a carry or borrow; O: the signed result has no room; Z: it is 0; S: its highest bit");
+        int c = Check.C, z = Check.Z, s = Check.S, o = Check.O;
+        int[][] rows = {
+            {0, 65535, 1, 0, 0, c | z}, {0, 65534, 1, 1, 65535, s}, {0, 32767, 1, 0, 32768, s | o}, {0, 255, 1, 0, 256, 0},
+            {0, 127, 1, 0, 128, 0}, {0, 32768, 32768, 0, 0, c | z | o}, {2, 65535, 0, 1, 0, c | z},
+            {2, 65535, 65535, 1, 65535, c | s}, {2, 32767, 0, 1, 32768, s | o}, {2, 32767, 32768, 1, 0, c | z},
+            {3, 0, 65535, 1, 0, c | z}, {3, 0, 0, 1, 65535, c | s}, {3, 32768, 0, 1, 32767, o}, {5, 0, 1, 0, 65535, c | s},
+            {5, 256, 1, 0, 255, 0}, {5, 128, 1, 0, 127, 0}, {5, 32768, 1, 0, 32767, o}, {5, 0, 32768, 0, 32768, c | s | o},
+            {7, 32767, 65535, 0, 32767, c | s | o}, {7, 65535, 65535, 1, 65535, z}, {4, 65280, 255, 1, 0, z},
+            {1, 32768, 1, 1, 32769, s}, {6, 65535, 32767, 1, 32768, s}, {1, 128, 0, 1, 128, 0}};
+        for (int[] row : rows) {
+            Computer x = Check.with(8 * row[0] + 5, row[2] & 255, row[2] >> 8);
+            x.put(Check.AX, row[1]);
+            x.put(Check.FLAGS, row[3]);
+            x.step(1);
+            String what = "operation " + row[0] + " of words " + row[1] + ", " + row[2] + " with C " + row[3];
+            Check.registerDue(what, x, Check.AX, row[4]);
+            Check.registerDue(what, x, Check.FLAGS, row[5]);
+        }
+    }
+
+    private static void formsAndOperands() {
+        Check.sentence("8 * k + 0: E b, R b. + 1: E w, R w. + 2: R b, E b. + 3: R w, E w. The first one becomes");
+        for (int k = 0; k < 8; k++) {
+            for (int form = 0; form < 4; form++) {
+                for (int i = 0; i < 11; i += 2) {
+                    for (int j = 0; j < 11; j += 2) {
+                        boolean wide = form % 2 == 1;
+                        int[] values = wide ? WORDS : BYTES;
+                        inMemory(k, form, values[i], values[j], wide);
+                        inRegisters(k, form, values[i], values[j], wide);
+                    }
+                }
+            }
+        }
+    }
+
+    /** E is at 300, R is CX or CL; the byte behind E and the higher half of R stay, where bytes are meant. */
+    private static void inMemory(int k, int form, int e, int r, boolean wide) {
+        Computer x = Check.with(8 * k + form, 8 * Check.CX + 7);
+        x.put(Check.BX, 300);
+        x.put(Check.CX, wide ? r : 0x6600 | r);
+        Check.write(x, 300, e & 255, wide ? e >> 8 : 0x44, 0x33);
+        x.put(Check.FLAGS, Check.C);
+        x.step(1);
+        int a = form < 2 ? e : r;
+        int b = form < 2 ? r : e;
+        int first = k == 7 ? a : result(k, a, b, 1, wide);
+        int eDue = form < 2 ? first : e;
+        int rDue = form < 2 ? r : first;
+        String what = "code " + (8 * k + form) + " of " + e + ", " + r;
+        Check.wordDue(what + ": E", x, 300, wide ? eDue : 0x4400 | eDue);
+        Check.due(what + ": behind E", x.peek(302), 0x33);
+        Check.registerDue(what + ": R", x, Check.CX, wide ? rDue : 0x6600 | rDue);
+        Check.registerDue(what, x, Check.FLAGS, flags(k, a, b, 1, wide));
+        Check.registerDue(what, x, Check.IP, 514);
+    }
+
+    /** E is DX or DL, R is SI or DH (register 6), which are apart from each other. */
+    private static void inRegisters(int k, int form, int e, int r, boolean wide) {
+        Computer x = Check.with(8 * k + form, 0xC0 + 8 * 6 + 2);
+        x.put(Check.DX, wide ? e : r << 8 | e);
+        x.put(Check.SI, wide ? r : 0x2222);
+        x.step(1);
+        int a = form < 2 ? e : r;
+        int b = form < 2 ? r : e;
+        int first = k == 7 ? a : result(k, a, b, 0, wide);
+        int eDue = form < 2 ? first : e;
+        int rDue = form < 2 ? r : first;
+        String what = "code " + (8 * k + form) + " of registers " + e + ", " + r;
+        Check.registerDue(what, x, Check.DX, wide ? eDue : rDue << 8 | eDue);
+        Check.registerDue(what, x, Check.SI, wide ? rDue : 0x2222);
+        Check.registerDue(what, x, Check.FLAGS, flags(k, a, b, 0, wide));
+    }
+
+    private static void givenOperands() {
+        Check.sentence("128: E b, ib; 129: E w, iw; 131: E w, sb: the same with k = r");
+        for (int k = 0; k < 8; k++) {
+            for (int i = 0; i < 11; i++) {
+                for (int j = 0; j < 11; j++) {
+                    given(128, k, BYTES[i], BYTES[j]);
+                    given(129, k, WORDS[i], WORDS[j]);
+                    given(131, k, WORDS[i], BYTES[j]);
+                }
+            }
+        }
+    }
+
+    /** E is in memory, at a place that a word tells, so that the given operand stands behind that word. */
+    private static void given(int code, int k, int e, int operand) {
+        boolean wide = code != 128;
+        Computer x = Check.with(code, 8 * k + 6, 44, 1, operand & 255, operand >> 8);
+        Check.write(x, 300, e & 255, wide ? e >> 8 : 0x44);
+        x.put(Check.FLAGS, Check.C);
+        x.step(1);
+        int b = code == 131 ? (byte) operand & 65535 : operand;
+        int want = k == 7 ? e : result(k, e, b, 1, wide);
+        String what = "code " + code + ", r " + k + " of " + e + ", " + operand;
+        Check.wordDue(what, x, 300, wide ? want : 0x4400 | want);
+        Check.registerDue(what, x, Check.FLAGS, flags(k, e, b, 1, wide));
+        Check.registerDue(what, x, Check.IP, code == 129 ? 518 : 517);
+        Check.due(what + ": interrupts()", x.interrupts(), 0);
+    }
+
     private static void countingRegisters() {
+        Check.sentence("64 + x: INC, 72 + x: DEC of register x; as ADD, SUB of 1, but C stays");
         for (int k = 0; k < 8; k++) {
             for (int carry = 0; carry < 2; carry++) {
                 for (int a : WORDS) {
-                    SmallComputer x = Check.with(64 + k);
+                    Computer x = Check.with(64 + k);
                     x.put(k, a);
                     x.put(Check.FLAGS, carry);
                     x.step(1);
@@ -153,10 +235,11 @@ public final class ArithmeticTest {
     }
 
     private static void countingOperands() {
+        Check.sentence("254, 255: r = 0 INC, r = 1 DEC of E");
         for (int i = 0; i < BYTES.length; i++) {
             for (int down = 0; down < 2; down++) {
                 int k = down == 0 ? 0 : 5;
-                SmallComputer x = Check.with(254, 8 * down + 7, 255, 0xC1 + 8 * down);
+                Computer x = Check.with(254, 8 * down + 7, 255, 0xC1 + 8 * down);
                 x.put(Check.BX, 700);
                 x.poke(700, BYTES[i]);
                 x.poke(701, 77);
@@ -175,15 +258,16 @@ public final class ArithmeticTest {
     }
 
     private static void notAndNegate() {
+        Check.sentence("r = 2 all its bits turned over; 3 it becomes 0 less it");
         for (int i = 0; i < BYTES.length; i++) {
-            SmallComputer x = Check.with(246, 0xD4, 247, 0x16, 88, 2, 246, 0xDC, 247, 0x1E, 88, 2);
+            Computer x = Check.with(246, 0xD4, 247, 0x16, 88, 2, 246, 0xDC, 247, 0x1E, 88, 2);
             x.put(Check.AX, BYTES[i] << 8 | 0x5A);
             Check.write(x, 600, WORDS[i] & 255, WORDS[i] >> 8);
-            x.put(Check.FLAGS, 3777);
+            x.put(Check.FLAGS, Check.ALL_FLAGS);
             x.step(2);
             Check.registerDue("NOT", x, Check.AX, (BYTES[i] ^ 255) << 8 | 0x5A);
             Check.wordDue("NOT", x, 600, WORDS[i] ^ 65535);
-            Check.registerDue("NOT changes no flags", x, Check.FLAGS, 3777);
+            Check.registerDue("NOT changes no flags", x, Check.FLAGS, Check.ALL_FLAGS);
             x.put(Check.FLAGS, 0);
             x.step(1);
             Check.registerDue("0 less it", x, Check.AX, (-(BYTES[i] ^ 255) & 255) << 8 | 0x5A);
@@ -195,9 +279,10 @@ public final class ArithmeticTest {
     }
 
     private static void multiplying() {
+        Check.sentence("4 MUL: AX := AL * E, or DX, AX := AX * E, without sign; C and O: the higher half is not 0");
         for (int i = 0; i < 11; i++) {
             for (int j = 0; j < 11; j++) {
-                SmallComputer x = Check.with(246, 0xE1, 247, 0xE3);
+                Computer x = Check.with(246, 0xE1, 247, 0xE3);
                 x.put(Check.AX, 0xEE00 | BYTES[i]);
                 x.put(Check.CX, 0xDD00 | BYTES[j]);
                 x.put(Check.FLAGS, Check.Z | Check.S | (i & 1));
@@ -216,78 +301,6 @@ public final class ArithmeticTest {
                 Check.registerDue("MUL w", x, Check.DX, (int) (wideProduct / 65536));
                 Check.registerDue("MUL w", x, Check.FLAGS, Check.I | (wideProduct > 65535 ? Check.C | Check.O : 0));
             }
-        }
-    }
-
-    private static void dividing() {
-        for (int i = 1; i < 11; i++) {
-            for (int j = 0; j < 11; j++) {
-                for (int k = 0; k < 11; k++) {
-                    divided(BYTES[i], BYTES[j], BYTES[k], false);
-                    divided(WORDS[i], WORDS[j], WORDS[k], true);
-                }
-            }
-        }
-        divisionEdges();
-    }
-
-    /** A whole made of its divisor, quotient and rest, where the rest is less than the divisor. */
-    private static void divided(int divisor, int quotient, int rest, boolean wide) {
-        if (rest >= divisor) {
-            return;
-        }
-        SmallComputer x = Check.with(wide ? 247 : 246, 0xF1);
-        long whole = (long) divisor * quotient + rest;
-        x.put(Check.AX, (int) (whole & 65535));
-        x.put(Check.DX, wide ? (int) (whole >> 16) : 4321);
-        x.put(Check.CX, divisor);
-        x.step(1);
-        String what = "DIV of " + whole + " by " + divisor;
-        Check.registerDue(what, x, Check.AX, wide ? quotient : 256 * rest + quotient);
-        Check.registerDue(what, x, Check.DX, wide ? rest : 4321);
-        Check.due(what + ": interrupts()", x.interrupts(), 0);
-    }
-
-    private static void divisionEdges() {
-        SmallComputer x = Check.with(246, 0xF1, 247, 0xF3, 246, 0xF4);
-        x.put(Check.AX, 255 * 200 + 199);
-        x.put(Check.CX, 200);
-        x.put(Check.FLAGS, 3777);
-        x.step(1);
-        Check.registerDue("DIV b", x, Check.AX, 199 << 8 | 255);
-        x.put(Check.DX, 65534);
-        x.put(Check.AX, 65535);
-        x.put(Check.BX, 65535);
-        x.step(1);
-        Check.registerDue("DIV w", x, Check.AX, 65535);
-        Check.registerDue("DIV w", x, Check.DX, 65534);
-        Check.registerDue("DIV changes no flags", x, Check.FLAGS, 3777);
-        Check.due("interrupts", x.interrupts(), 0);
-        x.put(Check.AX, 0x0100);
-        x.step(1);
-        Check.due("256 / AH has no room", x.interrupts(), 1);
-    }
-
-    private static void divisionFaults() {
-        int[][] rows = {{246, 0xF1, 500, 0, 0}, {246, 0xF1, 256 * 3, 0, 3}, {247, 0xF1, 5, 0, 0}, {247, 0xF1, 0, 7, 7}};
-        for (int[] row : rows) {
-            SmallComputer x = Check.with(row[0], row[1]);
-            Check.write(x, 0, 0x21, 0x03, 0x05, 0);
-            x.put(Check.AX, row[2]);
-            x.put(Check.DX, row[3]);
-            x.put(Check.CX, row[4]);
-            x.put(Check.FLAGS, 3777);
-            x.step(1);
-            Check.registerDue("fault", x, Check.AX, row[2]);
-            Check.registerDue("fault", x, Check.DX, row[3]);
-            Check.registerDue("fault", x, Check.IP, 0x321);
-            Check.registerDue("fault", x, Check.CS, 5);
-            Check.registerDue("fault", x, Check.SP, 250);
-            Check.registerDue("fault", x, Check.FLAGS, 3777 - Check.I);
-            Check.wordDue("fault: IP behind it", x, 250, 514);
-            Check.wordDue("fault: CS", x, 252, 0);
-            Check.wordDue("fault: FLAGS", x, 254, 3777);
-            Check.due("fault: interrupts", x.interrupts(), 1);
         }
     }
 }

@@ -1,43 +1,114 @@
-/** Promise 6: operands, prefixes, moves, the stack and the flag instructions. */
+/** Promise 6: operands, moves, the stack and the flag instructions. */
 public final class MoveTest {
+    private static final int BX = 100, SI = 20, DI = 7, BP = 200;
+    private static final int[] FLAG_SETS = {0, Check.ALL_FLAGS};
+
     public static void main(String[] args) {
-        byteRegisters();
-        offsets();
-        segmentsOfOperands();
-        prefixes();
-        movesOfSegments();
+        givenBytesAndWords();
+        byteRegistersAreHalves();
+        halvesStayApart();
+        registersAsOperands();
+        registersInMemoryOperands();
+        wordThatFollows();
+        signedByteThatFollows();
+        wordDisplacement();
+        segmentsRead();
+        segmentsWritten();
+        segmentOneIsUnknown();
         loadedOffsets();
-        addressesWrap();
-        stack();
+        loadedOffsetOfARegister();
+        registersPushed();
+        registersPopped();
+        segmentsPushed();
+        segmentsPopped();
+        nothing();
         flagInstructions();
+        movesLeaveFlags();
         Check.end();
     }
 
-    private static void byteRegisters() {
+    private static void givenBytesAndWords() {
+        Check.sentence("176 + x: byte register x := ib; 184 + x: register x := iw");
+        int[] words = {0, 1, 0x9234, 32767, 32768, 65535};
+        int[] bytes = {0, 1, 127, 128, 255};
         for (int k = 0; k < 8; k++) {
-            SmallComputer x = Check.ran(2, 176 + k, 0x9A, 184 + k, 0x34, 0x92);
-            Check.registerDue("184 + " + k, x, k, 0x9234);
-            x = Check.with(176 + k, 0x9A, 136, 0xC0 + 8 * k + (k ^ 1), 138, 0xC0 + 8 * (k ^ 5) + k);
-            for (int i = 0; i < 4; i++) {
-                x.put(i, 0x1133);
+            for (int w : words) {
+                Computer x = Check.ran(1, 184 + k, w & 255, w >> 8);
+                Check.registerDue("184 + " + k, x, k, w);
+                Check.registerDue("184 + " + k, x, Check.IP, 515);
             }
-            x.step(1);
-            Check.registerDue("176 + " + k, x, k & 3, k < 4 ? 0x119A : 0x9A33);
-            x.step(1);
-            Check.registerDue("136 from " + k, x, (k & 3) ^ 1, k < 4 ? 0x119A : 0x9A33);
-            x.step(1);
-            // The other half of the neighbour's register is written too.
-            Check.registerDue("138 from " + k, x, (k & 3) ^ 1, 0x9A9A);
+            for (int b : bytes) {
+                Computer x = Check.with(176 + k, b);
+                x.put(k & 3, 0x5AA5);
+                x.step(1);
+                Check.registerDue("176 + " + k, x, k & 3, k < 4 ? 0x5A00 | b : b << 8 | 0xA5);
+                Check.registerDue("176 + " + k, x, Check.IP, 514);
+            }
         }
-        SmallComputer x = Check.ran(1, 144);
-        Check.registerDue("144", x, Check.IP, 513);
-        Check.registerDue("144", x, Check.FLAGS, 0);
     }
 
-    private static final int BX = 100, SI = 20, DI = 7, BP = 200;
+    private static void byteRegistersAreHalves() {
+        Check.sentence("BYTE REGISTERS 0 .. 3 are the lower bytes of registers 0 .. 3, 4 .. 7 their higher ones");
+        for (int to = 0; to < 8; to++) {
+            for (int from = 0; from < 8; from++) {
+                byteMoved(136, 0xC0 + 8 * from + to, to, from);
+                byteMoved(138, 0xC0 + 8 * to + from, to, from);
+            }
+        }
+    }
 
-    private static SmallComputer based(int... program) {
-        SmallComputer x = Check.with(program);
+    /** Register k holds 0x4k and 0x8k before, the lower byte being the 0x4k. */
+    private static void byteMoved(int code, int modrm, int to, int from) {
+        Computer x = Check.with(code, modrm);
+        for (int k = 0; k < 8; k++) {
+            x.put(k, k < 4 ? 0x8040 + 0x101 * k : 0x7070 + k);
+        }
+        x.step(1);
+        int moved = from < 4 ? 0x40 + from : 0x80 + from - 4;
+        for (int k = 0; k < 8; k++) {
+            int low = k == to ? moved : 0x40 + k;
+            int high = k + 4 == to ? moved : 0x80 + k;
+            Check.registerDue("code " + code + " from " + from + " to " + to, x, k, k < 4 ? high << 8 | low : 0x7070 + k);
+        }
+    }
+
+    private static void halvesStayApart() {
+        Check.sentence("a byte that overflows stays in its byte");
+        for (int k = 0; k < 8; k++) {
+            int other = k < 4 ? 0x7700 : 0x77;
+            int shift = k < 4 ? 0 : 8;
+            Computer x = Check.with(254, 0xC0 + k, 254, 0xC8 + k, 128, 0xC0 + k, 1, 128, 0xE8 + k, 1);
+            x.put(k & 3, other | 255 << shift);
+            int[] want = {0, 255, 0, 255};
+            for (int w : want) {
+                x.step(1);
+                Check.registerDue("byte register " + k, x, k & 3, other | w << shift);
+            }
+        }
+    }
+
+    private static void registersAsOperands() {
+        Check.sentence("m = 3: register x (of bytes or words)");
+        for (int to = 0; to < 8; to++) {
+            for (int from = 0; from < 8; from++) {
+                Computer x = Check.with(137, 0xC0 + 8 * from + to);
+                Computer y = Check.with(139, 0xC0 + 8 * to + from);
+                for (int k = 0; k < 8; k++) {
+                    x.put(k, 0xF000 + k);
+                    y.put(k, 0xF000 + k);
+                }
+                x.step(1);
+                y.step(1);
+                for (int k = 0; k < 8; k++) {
+                    Check.registerDue("137 from " + from + " to " + to, x, k, 0xF000 + (k == to ? from : k));
+                    Check.registerDue("139 from " + from + " to " + to, y, k, 0xF000 + (k == to ? from : k));
+                }
+            }
+        }
+    }
+
+    private static Computer based(int... program) {
+        Computer x = Check.with(program);
         x.put(Check.BX, BX);
         x.put(Check.SI, SI);
         x.put(Check.DI, DI);
@@ -45,115 +116,119 @@ public final class MoveTest {
         return x;
     }
 
-    private static void offsets() {
-        int[] base = {BX + SI, BX + DI, BP + SI, BP + DI, SI, DI, BP, BX};
+    private static int base(int x) {
+        int[] bases = {BX + SI, BX + DI, BP + SI, BP + DI, SI, DI, BP, BX};
+        return bases[x];
+    }
+
+    private static void registersInMemoryOperands() {
+        Check.sentence("x = 0: BX + SI; 1: BX + DI; 2: BP + SI; 3: BP + DI; 4: SI; 5: DI; 6: BP; 7: BX");
         for (int x = 0; x < 8; x++) {
-            SmallComputer c = based(137, x, 0x2C, 0x01);
-            c.put(Check.AX, 0x1234);
-            c.step(1);
-            Check.wordDue("m 0, x " + x, c, x == 6 ? 300 : base[x], 0x1234);
-            Check.registerDue("m 0, x " + x, c, Check.IP, x == 6 ? 516 : 514);
-            c = based(139, 64 + x, 256 - 5);
-            Check.write(c, base[x] - 5, 0x78, 0x56);
-            c.step(1);
-            Check.registerDue("m 1, x " + x, c, Check.AX, 0x5678);
-            Check.registerDue("m 1, x " + x, c, Check.IP, 515);
-            c = based(139, 64 + x, 127);
-            Check.write(c, base[x] + 127, 0x79, 0x56);
-            c.step(1);
-            Check.registerDue("m 1 up, x " + x, c, Check.AX, 0x5679);
-            c = based(139, 128 + x, 0x2C, 0x81);
-            Check.write(c, (base[x] + 0x812C) % 1024, 0xBC, 0x9A);
-            c.step(1);
-            Check.registerDue("m 2, x " + x, c, Check.AX, 0x9ABC);
-            Check.registerDue("m 2, x " + x, c, Check.IP, 516);
-        }
-    }
-
-    private static void segmentsOfOperands() {
-        for (int m = 0; m < 3; m++) {
-            for (int x = 0; x < 8; x++) {
-                SmallComputer c = Check.with(138, 64 * m + x, 0, 0);
-                c.put(Check.SS, 40);
-                c.put(Check.DS, 50);
-                c.poke(640, 2);
-                c.poke(800, 3);
+            if (x != 6) {
+                Computer c = based(137, x);
+                c.put(Check.AX, 0x1234);
                 c.step(1);
-                boolean usesBp = x == 2 || x == 3 || (x == 6 && m != 0);
-                Check.registerDue("segment of m " + m + ", x " + x, c, Check.AX, usesBp ? 2 : 3);
+                Check.wordDue("m 0, x " + x, c, base(x), 0x1234);
+                Check.registerDue("m 0, x " + x, c, Check.IP, 514);
             }
         }
     }
 
-    private static void prefixes() {
-        int[] codes = {38, 46, 54, 62};
-        for (int p = 0; p < 4; p++) {
-            for (int x = 0; x < 8; x++) {
-                // CS is 0, so that the program is found; its prefix reaches address 0.
-                SmallComputer c = Check.with(codes[p], 138, x, 0, 0);
-                c.put(Check.ES, 40);
-                c.put(Check.SS, 50);
-                c.put(Check.DS, 60);
-                Check.write(c, 0, 11);
-                Check.write(c, 640, 10);
-                Check.write(c, 800, 12);
-                Check.write(c, 960, 13);
-                c.step(1);
-                Check.registerDue("prefix " + codes[p] + ", x " + x, c, Check.AX, 10 + p);
-            }
-        }
-        SmallComputer c = Check.with(38, 46, 54, 138, 7);
-        c.put(Check.ES, 40);
-        c.put(Check.SS, 50);
-        c.poke(800, 12);
+    private static void wordThatFollows() {
+        Check.sentence("6: BP, but with m = 0 a word that follows");
+        Computer c = based(137, 6, 0x2C, 0x01, 137, 0x46, 0);
+        c.put(Check.AX, 0x1234);
         c.step(1);
-        Check.registerDue("the last of three prefixes", c, Check.AX, 12);
-        Check.due("three prefixes", c.interrupts(), 0);
-        // A prefix counts for its own instruction alone.
-        c = Check.ran(2, 54, 144, 138, 7);
-        Check.registerDue("a prefix before", c, Check.AX, 0);
-        c = Check.with(54, 144, 138, 7);
-        c.put(Check.SS, 50);
-        c.put(Check.DS, 60);
-        c.poke(800, 12);
-        c.poke(960, 13);
-        c.step(2);
-        Check.registerDue("a prefix of the instruction before", c, Check.AX, 13);
-        c = Check.ran(1, 243, 242, 64);
-        Check.registerDue("243 says nothing before INC", c, Check.AX, 1);
-        Check.registerDue("243 says nothing before INC", c, Check.CX, 0);
-        Check.registerDue("243 says nothing before INC", c, Check.IP, 515);
+        Check.wordDue("m 0, x 6", c, 300, 0x1234);
+        Check.wordDue("m 0, x 6, not at BP", c, BP, 0);
+        Check.registerDue("m 0, x 6", c, Check.IP, 516);
+        c.step(1);
+        Check.wordDue("m 1, x 6", c, BP, 0x1234);
+        Check.registerDue("m 1, x 6", c, Check.IP, 519);
     }
 
-    private static void movesOfSegments() {
+    private static void signedByteThatFollows() {
+        Check.sentence("plus, with m = 1, sb");
+        int[][] rows = {{0, 0}, {1, 1}, {127, 127}, {128, -128}, {129, -127}, {255, -1}};
+        for (int x = 0; x < 8; x++) {
+            for (int[] row : rows) {
+                Computer c = based(139, 64 + x, row[0]);
+                Check.write(c, base(x) + row[1], 0x78, 0x56);
+                c.step(1);
+                Check.registerDue("m 1, x " + x + ", byte " + row[0], c, Check.AX, 0x5678);
+                Check.registerDue("m 1, x " + x + ", byte " + row[0], c, Check.IP, 515);
+            }
+        }
+    }
+
+    private static void wordDisplacement() {
+        Check.sentence("with m = 2, iw");
+        int[] words = {0, 1, 127, 128, 255, 256, 0x812C, 65535};
+        for (int x = 0; x < 8; x++) {
+            for (int word : words) {
+                Computer c = based(139, 128 + x, word & 255, word >> 8);
+                int address = (base(x) + word) % 65536 % 1024;
+                Check.write(c, address, 0xBC, 0x9A);
+                c.step(1);
+                Check.registerDue("m 2, x " + x + ", word " + word, c, Check.AX, 0x9ABC);
+                Check.registerDue("m 2, x " + x + ", word " + word, c, Check.IP, 516);
+            }
+        }
+    }
+
+    private static void segmentsRead() {
+        Check.sentence("140: E w := segment r mod 4");
         for (int r = 0; r < 8; r++) {
-            SmallComputer c = Check.with(140, 0xC0 + 8 * r + 3, 142, 0xC0 + 8 * r + 6);
+            Computer c = Check.with(140, 0xC0 + 8 * r + 3);
             for (int s = 8; s < 12; s++) {
                 c.put(s, s == Check.CS ? 64 : 0x1230 + s);
             }
-            c.put(Check.BX, 1);
-            c.put(Check.SI, 0x4567);
-            c.put(Check.IP, 512);
             c.step(1);
-            Check.registerDue("140 with " + r, c, Check.BX, r % 4 == 1 ? 64 : 0x1238 + r % 4);
-            c.step(1);
-            if (r % 4 == 1) {
-                Check.due("142 to CS", c.interrupts(), 1);
-            } else {
-                Check.registerDue("142 with " + r, c, 8 + r % 4, 0x4567);
-                Check.due("142 with " + r, c.interrupts(), 0);
-            }
+            Check.registerDue("140 with r " + r, c, Check.BX, r % 4 == 1 ? 64 : 0x1238 + r % 4);
         }
-        SmallComputer c = Check.with(140, 0x1E, 44, 1, 142, 0x06, 44, 1);
+        Computer c = Check.with(140, 0x1E, 44, 1);
         c.put(Check.DS, 0x0340);
         c.step(1);
         Check.wordDue("140 to memory", c, (16 * 0x340 + 300) % 1024, 0x0340);
+    }
+
+    private static void segmentsWritten() {
+        Check.sentence("142: segment r mod 4 := E w");
+        int[] words = {0, 1, 0x4567, 32768, 65535};
+        for (int r = 0; r < 8; r++) {
+            for (int word : words) {
+                if (r % 4 != 1) {
+                    Computer c = Check.with(142, 0xC0 + 8 * r + 6);
+                    c.put(Check.SI, word);
+                    c.put(8 + r % 4, 7);
+                    c.step(1);
+                    for (int s = 0; s < 4; s++) {
+                        Check.registerDue("142 with r " + r, c, 8 + s, s == r % 4 ? word : 0);
+                    }
+                    Check.due("142 with r " + r, c.interrupts(), 0);
+                }
+            }
+        }
+        Computer c = Check.with(142, 0x06, 44, 1);
+        Check.write(c, 300, 0x21, 0x43);
         c.step(1);
-        Check.registerDue("142 from memory", c, Check.ES, 0x0340);
+        Check.registerDue("142 from memory", c, Check.ES, 0x4321);
+    }
+
+    private static void segmentOneIsUnknown() {
+        Check.sentence("(r mod 4 = 1: UNKNOWN)");
+        int[] modrms = {0x0E, 0x2E, 0x48, 0x6F, 0xC8, 0xE8};
+        for (int modrm : modrms) {
+            Computer c = Check.with(142, modrm, 44, 1);
+            c.step(1);
+            Check.due("142 with " + modrm, c.interrupts(), 1);
+            Check.wordDue("142 with " + modrm, c, 250, 512);
+        }
     }
 
     private static void loadedOffsets() {
-        SmallComputer c = Check.with(54, 141, 0x40 + 8 * 4 + 3, 0x80);
+        Check.sentence("141: R w := the offset that the modrm says");
+        Computer c = Check.with(54, 141, 0x40 + 8 * 4 + 3, 0x80);
         c.put(Check.BP, 100);
         c.put(Check.DI, 20);
         c.put(Check.SS, 7);
@@ -161,94 +236,117 @@ public final class MoveTest {
         Check.registerDue("141", c, Check.SP, (120 - 128) & 65535);
         c = Check.ran(1, 141, 0x06, 0x34, 0x12);
         Check.registerDue("141 of a word", c, Check.AX, 0x1234);
-        c = Check.ran(1, 141, 0xC0);
-        Check.due("141 with m 3", c.interrupts(), 1);
-        Check.wordDue("141 with m 3: IP", c, 250, 512);
+        for (int r = 0; r < 8; r++) {
+            c = Check.ran(1, 141, 8 * r + 6, 0xFF, 0xFF);
+            Check.registerDue("141 to " + r, c, r, 65535);
+        }
     }
 
-    private static void addressesWrap() {
-        SmallComputer c = Check.with(137, 0x07);
-        c.put(Check.AX, 0xABCD);
-        c.put(Check.BX, 65535);
-        c.put(Check.DS, 3);
-        c.step(1);
-        Check.due("lower byte", c.peek(47), 0xCD);
-        Check.due("higher byte", c.peek(48), 0xAB);
-        c = Check.with(139, 0x07);
-        c.put(Check.BX, 1023);
-        Check.write(c, 1023, 0x11);
-        Check.write(c, 0, 0x22);
-        c.step(1);
-        Check.registerDue("a word over the end", c, Check.AX, 0x2211);
-        c = Check.with();
-        c.put(Check.CS, 65535);
-        c.put(Check.IP, 65535);
-        // 16 * 65535 + 65535 mod 1024 is 1007.
-        Check.write(c, 1007, 184, 0x34, 0x12);
-        c.step(1);
-        Check.registerDue("IP wraps", c, Check.AX, 0x1234);
-        Check.registerDue("IP wraps", c, Check.IP, 2);
+    private static void loadedOffsetOfARegister() {
+        Check.sentence("(m = 3: UNKNOWN)");
+        for (int modrm = 0xC0; modrm < 0x100; modrm++) {
+            Computer c = Check.ran(1, 141, modrm);
+            Check.due("141 with " + modrm, c.interrupts(), 1);
+            Check.wordDue("141 with " + modrm, c, 250, 512);
+        }
+        Computer c = Check.ran(1, 141, 0xBF, 0, 0);
+        Check.due("141 with m = 2", c.interrupts(), 0);
     }
 
-    private static void stack() {
+    private static void registersPushed() {
+        Check.sentence("80 + x: PUSH of register x (PUSH SP: the value before)");
         for (int k = 0; k < 8; k++) {
-            SmallComputer c = Check.with(80 + k);
+            Computer c = Check.with(80 + k);
             c.put(k, 0x0234);
             c.put(Check.SS, 2);
             c.step(1);
             int sp = k == 4 ? 0x0232 : 254;
             Check.registerDue("PUSH " + k, c, Check.SP, sp);
             Check.wordDue("PUSH " + k, c, (32 + sp) % 1024, 0x0234);
-            c = Check.with(88 + k);
+        }
+    }
+
+    private static void registersPopped() {
+        Check.sentence("SP grows by 2, and then the register becomes the word");
+        for (int k = 0; k < 8; k++) {
+            Computer c = Check.with(88 + k);
             Check.write(c, 256 + 32, 0x78, 0x56);
             c.put(Check.SS, 2);
             c.step(1);
             Check.registerDue("POP " + k, c, k, 0x5678);
             Check.registerDue("POP " + k, c, Check.SP, k == 4 ? 0x5678 : 258);
         }
+    }
+
+    private static void segmentsPushed() {
+        Check.sentence("6, 14, 22, 30: PUSH ES, CS, SS, DS");
         for (int s = 0; s < 4; s++) {
-            SmallComputer c = Check.with(6 + 8 * s);
+            Computer c = Check.with(6 + 8 * s);
             c.put(8 + s, s == 1 ? 64 : 0x0345);
             c.step(1);
             int base = s == 2 ? 16 * 0x345 : 0;
             Check.wordDue("PUSH segment " + s, c, (base + 254) % 1024, s == 1 ? 64 : 0x0345);
-            c = Check.with(7 + 8 * s);
+            Check.registerDue("PUSH segment " + s, c, Check.SP, 254);
+        }
+    }
+
+    private static void segmentsPopped() {
+        Check.sentence("7, 23, 31: POP ES, SS, DS (15 is UNKNOWN)");
+        for (int s = 0; s < 4; s++) {
+            Computer c = Check.with(7 + 8 * s);
             Check.write(c, 256, 0x78, 0x56);
             c.step(1);
             Check.due("POP segment " + s, c.interrupts(), s == 1 ? 1 : 0);
             Check.registerDue("POP segment " + s, c, 8 + s, s == 1 ? 0 : 0x5678);
             Check.registerDue("POP segment " + s, c, Check.SP, s == 1 ? 250 : 258);
         }
-        SmallComputer c = Check.with(80, 88);
-        c.put(Check.SP, 0);
-        c.put(Check.AX, 0x1122);
-        c.step(1);
-        Check.registerDue("SP wraps", c, Check.SP, 65534);
-        Check.wordDue("SP wraps", c, 1022, 0x1122);
-        c.step(1);
-        Check.registerDue("SP wraps back", c, Check.SP, 0);
-        c = Check.with(80, 89);
-        c.put(Check.SP, 1);
-        c.put(Check.AX, 0x3344);
-        c.step(1);
-        Check.registerDue("an odd SP", c, Check.SP, 65535);
-        Check.due("a word over the end", c.peek(1023), 0x44);
-        Check.due("a word over the end", c.peek(0), 0x33);
-        c.step(1);
-        Check.registerDue("an odd SP", c, Check.SP, 1);
-        Check.registerDue("a word over the end", c, Check.CX, 0x3344);
+    }
+
+    private static void nothing() {
+        Check.sentence("144: nothing");
+        for (int flags : FLAG_SETS) {
+            Computer x = Check.with(144);
+            x.put(Check.FLAGS, flags);
+            x.step(1);
+            for (int k = 0; k < 12; k++) {
+                Check.registerDue("144", x, k, k == Check.SP ? 256 : 0);
+            }
+            Check.registerDue("144", x, Check.IP, 513);
+            Check.registerDue("144", x, Check.FLAGS, flags);
+        }
     }
 
     private static void flagInstructions() {
+        Check.sentence("248 C := 0, 249 C := 1, 250 I := 0, 251 I := 1, 252 D := 0, 253 D := 1");
         int[] flags = {Check.C, Check.I, Check.D};
         for (int i = 0; i < 3; i++) {
-            SmallComputer c = Check.with(248 + 2 * i, 249 + 2 * i);
-            c.put(Check.FLAGS, 3777);
-            c.step(1);
-            Check.registerDue("off", c, Check.FLAGS, 3777 - flags[i]);
-            c.put(Check.FLAGS, 0);
-            c.step(1);
-            Check.registerDue("on", c, Check.FLAGS, flags[i]);
+            for (int before : FLAG_SETS) {
+                Computer c = Check.with(248 + 2 * i, 249 + 2 * i);
+                c.put(Check.FLAGS, before);
+                c.step(1);
+                Check.registerDue("off", c, Check.FLAGS, before & ~flags[i]);
+                c.put(Check.FLAGS, before);
+                c.step(1);
+                Check.registerDue("on", c, Check.FLAGS, before | flags[i]);
+            }
+        }
+    }
+
+    private static void movesLeaveFlags() {
+        Check.sentence("Nothing else changes flags");
+        int[][] programs = {{136, 0xC1}, {137, 0xC1}, {138, 0xC1}, {139, 0xC1}, {140, 0xC1}, {142, 0xC1}, {141, 7},
+            {176, 0}, {184, 0, 0}, {80}, {88}, {6}, {7}, {164}, {165}, {170}, {171}, {172}, {173}, {226, 0}, {232, 0, 0},
+            {233, 0, 0}, {235, 0}, {195}, {228, 33}, {230, 33}, {246, 0xD0}, {247, 0xD0}, {112, 0}, {244}, {243, 170}};
+        for (int[] program : programs) {
+            for (int flags : FLAG_SETS) {
+                Computer x = Check.with(program);
+                x.put(Check.FLAGS, flags);
+                x.put(Check.SI, 300);
+                x.put(Check.DI, 300);
+                x.step(1);
+                Check.registerDue("code " + program[0], x, Check.FLAGS, flags);
+                Check.due("code " + program[0] + ": interrupts()", x.interrupts(), 0);
+            }
         }
     }
 }
