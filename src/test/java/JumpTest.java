@@ -247,9 +247,12 @@ public final class JumpTest {
         Check.sentence("All others are UNKNOWN: INT 6. Nothing else of such an instruction is done");
         for (int code = 0; code < 256; code++) {
             if (!known(code)) {
-                unknownDue(code, 0xC0);
-                unknownDue(code, 0x07);
-                unknownDue(243, 38, code, 0xC0);
+                // What follows might be taken for a modrm of a known neighbour, so each r is tried.
+                for (int r = 0; r < 8; r++) {
+                    unknownDue(code, 0xC1 + 8 * r);
+                    unknownDue(code, 0x07 + 8 * r);
+                    unknownDue(243, 38, code, 0xC1 + 8 * r);
+                }
             }
         }
     }

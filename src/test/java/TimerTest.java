@@ -68,6 +68,7 @@ public final class TimerTest {
 
     private static void zeroIs65536() {
         Check.sentence("(0 is 65536)");
+        // Port 64 never meets 65536 itself: a step counts before it asks, and 512 calls have no steps enough for START.
         Computer x = new Computer();
         start(x, 0);
         Check.due("count()", x.count(), 65536);
